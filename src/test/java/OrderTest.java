@@ -11,6 +11,7 @@ final class OrderTest {
 
     static void run() {
         sequenceOfOrders();
+        sixOrders();
         cancel();
         wrongOrders();
         paintBoards();
@@ -22,6 +23,7 @@ final class OrderTest {
         touchUpFails();
         blotsWhilePainting();
         fadedLinesAreNotBlotted();
+        lineZeroIsBlotted();
     }
 
     private static TideTablePainters withPiers(int... rungs) {
@@ -58,6 +60,16 @@ final class OrderTest {
         x.cancelOrder(3);
         Checks.same("P28 the same rungs, greater number", x.order(3, 7), 2);
         Checks.same("P28 days do not pass by orders", x.today(), 0);
+    }
+
+    private static void sixOrders() {
+        TideTablePainters x = withPiers(0, 0, 0, 0, 0, 0);
+        for (int i = 5; i >= 0; i--) {
+            Checks.same("P28 before all others", x.order(i, 3), 0);
+        }
+        Checks.same("P30 six", x.waitingOrders(), 6);
+        Checks.same("P31 the last", x.waitingPier(5), 5);
+        Checks.fails("P31 seventh", Checks.NO_ELEMENT, () -> x.waitingPier(6));
     }
 
     private static void cancel() {
@@ -259,5 +271,16 @@ final class OrderTest {
         Checks.same("P36 during the job", x.touchUp(0), 2);
         Checks.same("P33 the job goes on", x.linesToPaint(), 2);
         Checks.same("P34 to its end", x.paint(50), 2);
+    }
+
+    private static void lineZeroIsBlotted() {
+        TideTablePainters x = withPaint(3);
+        x.order(0, 0);
+        x.paint(3);
+        x.passDays(7);
+        Checks.same("P34 the last line", x.paint(50), 1);
+        Checks.same("P34 the only readable line is blotted", x.lineState(0, 0), TideTablePainters.BLOTTED);
+        Checks.same("P42 no drips are left", x.dripsOf(0), 0);
+        Checks.same("P36 it comes before faded lines", x.touchUp(0), 0);
     }
 }

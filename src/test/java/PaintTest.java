@@ -13,6 +13,9 @@ final class PaintTest {
         takeFromTheOldestThatHasEnough();
         takeAnExactTin();
         takeNothing();
+        removedTinsAreGone();
+        pourElevenOfTwelve();
+        pourFromTwelve();
         drippedAndUsed();
     }
 
@@ -106,6 +109,44 @@ final class PaintTest {
         Checks.same("P27 nothing poured", x.paintPoured(), 0);
         Checks.same("P25 nothing used", x.paintUsed(), 0);
         Checks.same("P23 the other colour is not taken", x.paintLeft(BLUE), 500);
+    }
+
+    private static void removedTinsAreGone() {
+        TideTablePainters x = withOrder(0);
+        x.deliverTin(RED, 5);
+        x.deliverTin(RED, 6);
+        x.deliverTin(BLUE, 999);
+        Checks.same("P34 four lines", x.paint(50), 4);
+        Checks.same("P24 the last millilitre", x.oldestTin(RED), 1);
+        x.order(0, 0);
+        Checks.same("P34 no red paint", x.paint(50), 0);
+        Checks.same("P27 nothing poured", x.paintPoured(), 0);
+        Checks.same("P23 the last millilitre", x.paintLeft(RED), 1);
+    }
+
+    private static void pourElevenOfTwelve() {
+        TideTablePainters x = withOrder(0);
+        for (int i = 0; i < 11; i++) {
+            x.deliverTin(RED, 4);
+        }
+        x.deliverTin(RED, 5);
+        Checks.same("P34 one line", x.paint(1), 1);
+        Checks.same("P22 all are gone", x.tinCount(RED), 0);
+        Checks.same("P27 eleven", x.paintPoured(), 44);
+        Checks.same("P21 there is place again", x.deliverTin(RED, 9), 1);
+        Checks.same("P24 the new one", x.oldestTin(RED), 9);
+    }
+
+    private static void pourFromTwelve() {
+        TideTablePainters x = withOrder(0);
+        x.deliverTin(RED, 1);
+        for (int i = 1; i < 12; i++) {
+            x.deliverTin(RED, 10 + i);
+        }
+        x.paint(1);
+        Checks.same("P22 eleven", x.tinCount(RED), 11);
+        Checks.same("P24 the second one", x.oldestTin(RED), 6);
+        Checks.same("P23 left", x.paintLeft(RED), 171);
     }
 
     private static void drippedAndUsed() {

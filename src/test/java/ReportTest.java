@@ -154,11 +154,15 @@ final class ReportTest {
         x.report(2, 0, 40);
         Checks.same("P20 three days", x.reportAge(3, 0), 3);
         Checks.same("P20 new", x.reportAge(2, 0), 0);
-        x.passDays(6);
-        Checks.same("P5 nine days old stays", x.reportCount(0), 2);
+        x.passDays(1);
+        x.report(5, 0, 40);
+        x.passDays(5);
+        Checks.same("P5 nine days old stays", x.reportCount(0), 3);
         Checks.same("P20 nine days", x.reportAge(3, 0), 9);
         x.passDays(1);
-        Checks.same("P5 ten days old goes", x.reportCount(0), 1);
+        Checks.same("P5 ten days old goes", x.reportCount(0), 2);
+        Checks.same("P20 the age moves up too", x.reportAge(2, 0), 7);
+        Checks.same("P20 the age moves up too", x.reportAge(5, 0), 6);
         Checks.same("P5 on each pier", x.reportCount(1), 0);
         Checks.same("P18 the other moves up", x.reporterAt(0, 0), 2);
         Checks.same("P15 the other remains", x.correctionOf(0), 40);
