@@ -11,6 +11,13 @@ public final class AllTests {
         PaintTest.run();
         OrderTest.run();
         BoardTest.run();
+        ParameterTest.run();
+        RefusalTest.run();
+        TideEdgeTest.run();
+        ReportEdgeTest.run();
+        PaintEdgeTest.run();
+        OrderEdgeTest.run();
+        BoardEdgeTest.run();
         if (args.length == 0 || !args[0].equals("short")) {
             RandomRunsTest.run();
         }
