@@ -5,6 +5,8 @@ public final class AllTests {
 
     public static void main(String[] args) {
         FaceTest.run();
+        LanguageTest.run();
+        ReadmeTest.run();
         PierTest.run();
         TideTest.run();
         ReportTest.run();
